@@ -346,12 +346,14 @@ public final class CaskBook {
      */
     private int bestSet() {
         int found = NONE;
-        int least = Integer.MAX_VALUE;
+        int least = 0;
         int end = 1 << laid;
         int step = 1;
         for (int set = 1; set < end; set += step) {
             step = set & -set;
-            if (!gather(set) || mix.cost >= least || !wanted.isOldEnough(mix)) {
+            boolean isBlend = gather(set);
+            boolean isTooDear = found != NONE && mix.cost >= least;
+            if (!isBlend || isTooDear || !wanted.isOldEnough(mix)) {
                 continue;
             }
             if (wanted.isMetBy(mix)) {

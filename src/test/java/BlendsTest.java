@@ -7,6 +7,8 @@ public final class BlendsTest {
         want();
         wantRefused();
         blend();
+        blendOfOneDrop();
+        blendDividesOut();
         blendAge();
         blendRefused();
         rightAtItsEdges();
@@ -65,6 +67,28 @@ public final class BlendsTest {
             expect.due("of one, " + what, one[what], x.blend(1, what));
             expect.due("of both, " + what, both[what], x.blend(3, what));
         }
+    }
+
+    private static void blendOfOneDrop() {
+        CaskBook x = new CaskBook();
+        x.lay(1, 1, 450, 2, 7);
+        int[] due = {1, 450, 0, 0, 7, 0, 1, 1};
+        for (int what = 0; what < 8; what++) {
+            expect.due("of one DROP, " + what, due[what], x.blend(1, what));
+        }
+        expect.due("it may be the best", 1, x.best(0));
+    }
+
+    /** Sums one below a whole number are rounded down, so one more in a sum would show. */
+    private static void blendDividesOut() {
+        CaskBook x = new CaskBook();
+        x.lay(0, 9, 500, 0, 100);
+        x.lay(0, 1, 499, 0, 99);
+        expect.due("STRENGTH 499.9", 499, x.blend(3, 1));
+        expect.due("SMOKE 99.9", 99, x.blend(3, 4));
+        x.lay(0, 10, 501, 0, 101);
+        expect.due("STRENGTH 500.45", 500, x.blend(7, 1));
+        expect.due("SMOKE 100.45", 100, x.blend(7, 4));
     }
 
     private static void blendAge() {
@@ -203,6 +227,14 @@ public final class BlendsTest {
         expect.due("eleven", 2047, x.best(0));
         x.want(0, 12001);
         expect.due("too few", -9, x.best(0));
+        expect.due("a BLEND of twelve", 12000, x.blend(4095, 0));
+        expect.due("a 13th bit", -1, x.blend(4096, 0));
+        expect.due("DUTY of twelve", 168000, x.duty(4095));
+        expect.due("a 13th bit's DUTY", -1, x.duty(4096));
+        expect.due("twelve LAST", 1, x.lasts(9999, 0));
+        expect.due("a YEAR of twelve", 1, x.years(1));
+        expect.due("none EMPTY", 12, x.count(2));
+        expect.due("DROPS of twelve", 11580, x.count(5));
     }
 
     private static void lasts() {
@@ -239,9 +271,17 @@ public final class BlendsTest {
         CaskBook y = new CaskBook();
         y.lay(2, 1000, 500, 0, 0);
         y.lay(0, 1000, 500, 3, 0);
-        // like AGE, so 1000 of CASK 0 go first: 1000 at LOSS 50 leaves 950
-        expect.due("the least number first", 1, y.lasts(1000, 0));
-        expect.due("951 leave 48 and 950", 2, y.lasts(951, 0));
+        // like AGE, so it is CASK 0 that has 26 left: 25 with its LOSS of 22, and 950 of CASK 1
+        expect.due("the least number first, 974 of 975", 2, y.lasts(974, 0));
+        // 24 and 950; were CASK 1 first, 23 and 978
+        expect.due("the least number first, 975 of 974", 1, y.lasts(975, 0));
+        CaskBook z = new CaskBook();
+        z.lay(0, 1000, 500, 0, 0);
+        z.years(2);
+        z.lay(0, 1000, 500, 0, 0);
+        // 933 of AGE 2 and 17: 983 left, less 35; were the young one first, 48 and 904
+        expect.due("the oldest first", 1, z.lasts(950, 0));
+        expect.due("LOSS goes on by each one's AGE", 19, z.lasts(80, 0));
     }
 
     private static void lastsRefused() {
@@ -270,6 +310,9 @@ public final class BlendsTest {
         }
         x.draw(0, 1000);
         expect.due("of an EMPTY one", 0, x.cut(0, 300));
+        x.lay(0, 9000, 400, 0, 0);
+        expect.due("9000 DROPS to one more", 0, x.cut(1, 401));
+        expect.due("9000 DROPS to far more", 0, x.cut(1, 700));
     }
 
     private static void rate() {
@@ -297,6 +340,9 @@ public final class BlendsTest {
         for (int set : wrong) {
             expect.due("set " + set, -1, x.duty(set));
         }
+        x.lay(0, 2, 500, 0, 0);
+        expect.due("1 to the number", 28, x.duty(4));
+        x.draw(2, 2);
         x.draw(0, 3);
         expect.due("an EMPTY one is no fault", 14028, x.duty(3));
         x.rate(1);

@@ -9,6 +9,7 @@ public final class CasksTest {
         layOutOfRange();
         layFull();
         years();
+        yearsRoundUp();
         yearsRefused();
         lossByKind();
         lossRefused();
@@ -92,6 +93,19 @@ public final class CasksTest {
         expect.due("AGE", 60, x.about(0, 2));
         expect.due("AGE of one laid later", 58, x.about(1, 2));
         expect.due("STRENGTH 58 years on", 526, x.about(1, 1));
+    }
+
+    private static void yearsRoundUp() {
+        CaskBook x = new CaskBook();
+        x.lay(2, 9000, 500, 0, 0);
+        x.years(10);
+        x.draw(0, x.about(0, 0) - 143);
+        x.years(1);
+        expect.due("7 thousandths of 143, 1.001, go as 2", 141, x.about(0, 0));
+        x.lay(0, 9000, 500, 1, 0);
+        x.draw(1, 8975);
+        x.years(1);
+        expect.due("40 thousandths of 25, 1", 24, x.about(1, 0));
     }
 
     private static void yearsRefused() {
@@ -270,7 +284,8 @@ public final class CasksTest {
         x.read(0, 0, 6);
         x.rate(7);
         x.years(1);
-        int[] due = {1, 3, 1, 2, 7, 96};
+        x.lay(0, 1, 500, 0, 0);
+        int[] due = {1, 4, 2, 2, 7, 97};
         for (int what = 0; what < due.length; what++) {
             expect.due("count " + what, due[what], x.count(what));
         }

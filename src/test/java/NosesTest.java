@@ -149,6 +149,8 @@ public final class NosesTest {
         expect.due("DIFFER", 198, x.hang(0, 5, 1));
         expect.due("DIFFER the other way", -198, x.hang(5, 0, 1));
         expect.due("a NOSE and a SAMPLE of one number", 0, x.hang(3, 0, 0));
+        x.read(1, 3, 50);
+        expect.due("one more by a SAMPLE that was moved with its group", -49, x.hang(1, 0, 1));
     }
 
     private static void hangAheadOfContradiction() {
