@@ -1,8 +1,8 @@
 import java.util.Random;
 
-/** All promises: runs of 512 calls, the same for all times, each answer compared with the model's. */
+/** All promises: runs of 512 calls, the most an object is used for, each answer compared with the model's. */
 public final class ModelTest {
-    private static final int RUNS = 240, CALLS = 512;
+    private static final int RUNS = 500, CALLS = 512;
     private static final int[] FAR = {Integer.MIN_VALUE, Integer.MAX_VALUE, -1, 1 << 12, 1 << 31 | 1, 100000};
     private static final Expect expect = new Expect();
 
@@ -71,9 +71,10 @@ public final class ModelTest {
         expect.due(name + " " + call, want, got);
     }
 
+    /** One call of the object, whichever it is. */
     private void anyCall() {
-        int way = random.nextInt(26);
-        if (way < 14) {
+        int way = random.nextInt(32);
+        if (way < 18) {
             caskOrBlendCall(way);
         } else {
             noseCall(way);
@@ -85,28 +86,28 @@ public final class ModelTest {
             case 0: lay(); break;
             case 1: years(); break;
             case 2: loss(); break;
-            case 3: about(); break;
-            case 4: move(); break;
-            case 5: draw(); break;
-            case 6: case 7: want(); break;
-            case 8: blend(); break;
-            case 9: best(); break;
-            case 10: lasts(); break;
-            case 11: cut(); break;
-            case 12: rate(); break;
+            case 3: case 4: case 5: about(); break;
+            case 6: move(); break;
+            case 7: draw(); break;
+            case 8: case 9: want(); break;
+            case 10: case 11: case 12: blend(); break;
+            case 13: best(); break;
+            case 14: lasts(); break;
+            case 15: cut(); break;
+            case 16: rate(); break;
             default: duty(); break;
         }
     }
 
     private void noseCall(int way) {
         switch (way) {
-            case 14: odds(); break;
-            case 15: apart(); break;
-            case 20: hang(); break;
-            case 21: contradicts(); break;
-            case 22: count(); break;
-            case 23: due("trace", model.trace(), book.trace()); break;
-            case 24: clear(); break;
+            case 18: odds(); break;
+            case 19: apart(); break;
+            case 20: case 21: case 22: hang(); break;
+            case 23: case 24: due("contradicts", model.contradicts(), book.contradicts()); break;
+            case 25: count(); break;
+            case 26: due("trace", model.trace(), book.trace()); break;
+            case 27: clearOrRead(); break;
             default: read(); break;
         }
     }
@@ -120,11 +121,6 @@ public final class ModelTest {
     private void years() {
         int n = slow ? number(1, 2) : number(1, 30);
         due("years " + n, model.years(n), book.years(n));
-        for (int cask = 0; cask < model.count(1); cask++) {
-            for (int what = 0; what < 9; what++) {
-                due("about " + cask + " " + what, model.about(cask, what), book.about(cask, what));
-            }
-        }
     }
 
     private void loss() {
@@ -162,11 +158,7 @@ public final class ModelTest {
     }
 
     private void blend() {
-        int set = set();
-        for (int what = 0; what < 8; what++) {
-            due("blend " + set + " " + what, model.blend(set, what), book.blend(set, what));
-        }
-        int what = number(0, 7);
+        int set = set(), what = number(0, 7);
         due("blend " + set + " " + what, model.blend(set, what), book.blend(set, what));
     }
 
@@ -214,31 +206,23 @@ public final class ModelTest {
             v = heights[nose] + heights[6 + sample];
         }
         due("read", model.read(nose, sample, v), book.read(nose, sample, v));
-        contradicts();
     }
 
-    private void clear() {
+    private void clearOrRead() {
         if (random.nextInt(3) == 0) {
             due("clear", model.clear(), book.clear());
+        } else {
+            read();
         }
-    }
-
-    private void contradicts() {
-        due("contradicts", model.contradicts(), book.contradicts());
     }
 
     private void hang() {
-        int what = number(0, 1);
-        for (int one = -1; one < 7; one++) {
-            for (int other = -1; other < 7; other++) {
-                due("hang " + one + " " + other, model.hang(one, other, what), book.hang(one, other, what));
-            }
-        }
+        int one = number(0, 5), other = number(0, 5), what = number(0, 1);
+        due("hang " + one + " " + other, model.hang(one, other, what), book.hang(one, other, what));
     }
 
     private void count() {
-        for (int what = -1; what < 7; what++) {
-            due("count " + what, model.count(what), book.count(what));
-        }
+        int what = number(0, 5);
+        due("count " + what, model.count(what), book.count(what));
     }
 }
