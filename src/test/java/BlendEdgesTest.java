@@ -69,6 +69,10 @@ public final class BlendEdgesTest {
             expect.due("OAK as laid", 0, x.blend(3, 3));
             expect.due("SWEET as laid", 0, x.blend(3, 5));
         }
+        CaskBook least = new CaskBook();
+        least.lay(0, 1, 450, 0, 7);
+        expect.due("STRENGTH of one DROP", 450, least.blend(1, 1));
+        expect.due("SMOKE of one DROP", 7, least.blend(1, 4));
         CaskBook most = new CaskBook();
         for (int cask = 0; cask < 12; cask++) {
             most.lay(0, 9000, 700, 3, 500);
@@ -86,7 +90,8 @@ public final class BlendEdgesTest {
         x.lay(1, 1000, 500, 0, 0);
         x.years(1);
         int[][] rows = {
-            {1, 1, 20, 5}, {9, 1, 24, 5}, {1, 9, 16, 4}, {8, 1, 24, 5}, {1, 8, 17, 4}, {900, 1, 24, 5}, {1, 900, 16, 4},
+            {1, 1, 20, 5}, {1, 2, 19, 4}, {9, 1, 24, 5}, {1, 9, 16, 4}, {8, 1, 24, 5}, {1, 8, 17, 4},
+            {900, 1, 24, 5}, {1, 900, 16, 4},
         };
         for (int[] r : rows) {
             CaskBook y = new CaskBook();
@@ -440,6 +445,9 @@ public final class BlendEdgesTest {
         x.draw(0, 1000);
         expect.due("of an EMPTY one", 0, x.cut(0, 300));
         expect.due("of an EMPTY one, below", -1, x.cut(0, 299));
+        x.lay(0, 9000, 400, 0, 0);
+        expect.due("the most DROPS, to one more", 0, x.cut(1, 401));
+        expect.due("the most DROPS, to the most", 0, x.cut(1, 700));
     }
 
     private static void dutyRoundedDown() {

@@ -131,7 +131,7 @@ public final class CaskEdgesTest {
         expect.sentence("It is so many thousandths of DROPS, rounded up, that go in a year.");
         // FRESH on FLOOR 0 loses 35 thousandths in its first year, TIRED 22
         int[][] rows = {
-            {0, 1, 0}, {0, 2, 1}, {0, 28, 27}, {0, 29, 27}, {0, 199, 192}, {0, 200, 193}, {0, 201, 193},
+            {0, 1, 0}, {0, 2, 1}, {0, 28, 27}, {0, 29, 27}, {0, 8601, 8299}, {0, 200, 193}, {0, 201, 193},
             {0, 9000, 8685}, {2, 45, 44}, {2, 46, 44}, {2, 499, 488}, {2, 500, 489},
         };
         CaskBook x = new CaskBook();

@@ -101,7 +101,8 @@ public final class NoseEdgesTest {
     }
 
     private static void firstReading() {
-        expect.sentence("READING r CONTRADICTS, if there is no SCALE for READINGS 0 .. r but one for those ahead of it.");
+        expect.sentence("READING r CONTRADICTS, if there is no SCALE for READINGS 0 .. r but one for those ahead of "
+            + "it.");
         for (int nose = 0; nose < 6; nose++) {
             for (int sample = 0; sample < 10; sample++) {
                 CaskBook x = new CaskBook();
@@ -264,6 +265,16 @@ public final class NoseEdgesTest {
             expect.due("contradicts", NONE, x.contradicts());
             expect.due("HANG", 0, x.hang(0, 1, 0));
             expect.due("again", 0, x.clear());
+        }
+        CaskBook x = new CaskBook();
+        for (int nose = 0; nose < 6; nose++) {
+            for (int sample = 0; sample < 10; sample++) {
+                x.read(nose, sample, 10);
+                x.clear();
+                x.read(nose, sample, 20);
+                expect.due("what NOSE " + nose + " told of " + sample + " is forgotten", NONE, x.contradicts());
+                x.clear();
+            }
         }
     }
 
